@@ -473,13 +473,16 @@ public final class CopyInserts {
         }
 
         int countSame(int from, Row other, int otherFrom) {
+            if (!has(from) || !other.has(otherFrom)) {
+                return 0;
+            }
             int most = Math.min(size - from, other.size - otherFrom);
             for (int n = 0; n < most; n++) {
-                if (get(from + n) != other.get(otherFrom + n)) {
+                if (values[from + n] != other.values[otherFrom + n]) {
                     return n;
                 }
             }
-            return Math.max(0, most);
+            return most;
         }
 
         boolean isSame(Row other) {
@@ -736,7 +739,6 @@ public final class CopyInserts {
             workOut();
             nextAt = 0;
             nextSpot = 0;
-            count = 0;
         }
 
         /** Whether there is one more ACT of THE BEST PLAN; it is found then. */

@@ -58,6 +58,13 @@ public final class BestPlanTest {
         }
         Check.due("plan() backwards", single.plan(), 40);
         Check.due("cost backwards", single.cost(), 0);
+        Check.due("moved backwards", single.moved(0) + single.moved(1) + single.moved(2), 40);
+        Check.due("moved up", single.moved(2), 1);
+        for (int call = 0; call < 200; call++) {
+            laid.plan();
+        }
+        Check.due("last byte laid by the 201st plan()", laid.laid(0, 39), 39);
+        Check.due("isNew by the 201st plan()", laid.make() == 40 ? laid.isNew() : -1, 1);
     }
 
     private static void promise7InOrder() {
