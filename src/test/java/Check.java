@@ -3,8 +3,18 @@ final class Check {
     private static final int MOST_PRINTED = 50;
     private static int wrong = 0;
     private static int checked = 0;
+    private static String ahead = "";
 
     private Check() {
+    }
+
+    /** What is printed behind this is told with the case's name. */
+    static void begin(String name) {
+        ahead = name.isEmpty() ? "" : name + ": ";
+    }
+
+    static int checked() {
+        return checked;
     }
 
     static void due(String call, long got, long want) {
@@ -12,7 +22,7 @@ final class Check {
         if (got != want) {
             wrong++;
             if (wrong <= MOST_PRINTED) {
-                System.out.println(call + " answered " + got + ", due is " + want);
+                System.out.println(ahead + call + " answered " + got + ", due is " + want);
             }
         }
     }

@@ -203,16 +203,26 @@ public final class CodeTest {
         return x;
     }
 
+    /** The state of so many ACTS would take more than the 512 calls that an object is good for. */
+    private static void tooManyAt(String what, CopyInserts x, int place) {
+        int acts = x.of(2);
+        int bytes = x.of(3);
+        Check.due(what, x.read(), CopyInserts.FAULT - place);
+        Check.due(what + ": ACTS stay", x.of(2), acts);
+        Check.due(what + ": the first stays", x.act(0, 1), 40);
+        Check.due(what + ": CODE stays", x.of(3), bytes);
+    }
+
     private static void promise23Acts() {
         Check.due("100 ACTS", withSpareActs(80).read(), 100);
-        faultAt("a 101st ACT", withSpareActs(81), 2 + 3 + 99 * 2);
-        faultAt("a 118th ACT", withSpareActs(98), 2 + 3 + 99 * 2);
+        tooManyAt("a 101st ACT", withSpareActs(81), 2 + 3 + 99 * 2);
+        tooManyAt("a 118th ACT", withSpareActs(98), 2 + 3 + 99 * 2);
         CopyInserts cutShort = withSpareActs(81);
         cutShort.shorten(1);
-        faultAt("a 101st ACT that is cut short", cutShort, 2 + 3 + 99 * 2);
+        tooManyAt("a 101st ACT that is cut short", cutShort, 2 + 3 + 99 * 2);
         CopyInserts wrong = withSpareActs(81);
         wrong.poke(2 + 3 + 98 * 2, 0);
-        faultAt("a wrong byte ahead of a 101st ACT", wrong, 2 + 3 + 98 * 2);
+        tooManyAt("a wrong byte ahead of a 101st ACT", wrong, 2 + 3 + 98 * 2);
         CopyInserts full = withSpareActs(80);
         full.read();
         Check.due("add to 100 that were read", full.add(0, 0, 1), CopyInserts.FULL);

@@ -27,6 +27,7 @@ public final class LanguageTest {
         }
         shape(CopyInserts.class);
         words();
+        longUse();
         Check.end();
     }
 
@@ -112,6 +113,28 @@ public final class LanguageTest {
         for (Method method : one.getDeclaredMethods()) {
             Check.due(method + " takes few", method.getParameterCount() <= 7 ? 1 : 0, 1);
         }
+    }
+
+    /** What is answered behind the 512th call is free, but no call may throw: rule 7. */
+    private static void longUse() {
+        CopyInserts x = new CopyInserts();
+        for (int round = 0; round < 3; round++) {
+            for (int i = 0; i < 5000; i++) {
+                x.lay(i % 256);
+            }
+            x.write();
+            x.read();
+            x.make();
+            for (int i = 0; i < 5000; i++) {
+                x.poke(i, 104);
+                x.put(i % 2, i % 3);
+            }
+            x.read();
+            x.plan();
+            x.moved(round);
+            x.turn();
+        }
+        Check.due("OLD is not above 40", x.of(0) <= 40 ? 1 : 0, 1);
     }
 
     private static void words() throws IOException {
